@@ -630,9 +630,9 @@ public final class BlockCode {
 
         int ofOpFolded(int op, int x, int y) {
             if (!holdsInt(x) || !holdsInt(y) || dividesByZero(op, intOf(y))) {
-                return ofOp(op, x, y);
+                return numberOf(op, x, y);
             }
-            return ofInt(combined(op, intOf(x), intOf(y)));
+            return numberOf(OF_INT, combined(op, intOf(x), intOf(y)), 0);
         }
 
         boolean holdsInt(int symbol) {
@@ -678,7 +678,6 @@ public final class BlockCode {
         }
 
         void beginUnknown() {
-            risks = 0;
             for (int r = 0; r < REGISTERS; r++) {
                 held[r] = symbols.ofRegister(r);
             }

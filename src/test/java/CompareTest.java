@@ -19,6 +19,7 @@ public final class CompareTest {
         compareEarlyEnds();
         compareNeedsOfTheResult();
         compareBehindTheLast();
+        compareFullBlocks();
         commitAsksForAComparison();
         commitAsksForAGoodEnd();
         commitChangesTheSource();
@@ -114,6 +115,10 @@ public final class CompareTest {
         checks.due("14: register 1 is not the int 1", compared(kinds, 0, Programs.copy(2, 1)), 1);
         BlockCode half = Programs.sealed(Programs.set(1, 0), Programs.plus(2, 0, 1), Programs.end(4));
         checks.due("14: plus 0 is no copy", compared(half, 1, Programs.copy(2, 0)), 1);
+        BlockCode left = Programs.sealed(Programs.set(1, 3), Programs.plus(2, 0, 1), Programs.end(4));
+        checks.due("14: any plus an int is no int", compared(left, 1, Programs.set(2, 3)), 1);
+        BlockCode right = Programs.sealed(Programs.set(1, 3), Programs.plus(2, 1, 0), Programs.end(4));
+        checks.due("14: an int plus any is no int", compared(right, 1, Programs.set(2, 3)), 1);
         BlockCode least = Programs.sealed(Programs.set(0, MIN), Programs.set(1, -1),
                 Programs.divided(2, 0, 1), Programs.end(4));
         checks.due("14: the least int by -1", compared(least, 2, Programs.set(2, MIN)), 0);
@@ -171,6 +176,12 @@ public final class CompareTest {
         checks.due("14: one is gone", compared(twoRisks(), 1, Programs.nothing()), 1);
         checks.due("14: another divisor", compared(twoRisks(), 1, Programs.divided(3, 1, 4)), 1);
         checks.due("14: another dividend", compared(twoRisks(), 1, Programs.divided(3, 4, 0)), 1);
+        BlockCode divisor = Programs.sealed(Programs.divided(2, 0, 1), Programs.divided(3, 4, 1),
+                Programs.end(0));
+        checks.due("14: the same divisor alone is another risk", compared(divisor, 1, Programs.nothing()), 1);
+        BlockCode dividend = Programs.sealed(Programs.divided(2, 0, 1), Programs.divided(3, 0, 4),
+                Programs.end(0));
+        checks.due("14: the same dividend alone is another risk", compared(dividend, 1, Programs.nothing()), 1);
         BlockCode more = Programs.sealed(Programs.nothing(), Programs.nothing(), Programs.end(0));
         checks.due("14: one more", compared(more, 0, Programs.divided(0, 1, 2)), 1);
         BlockCode again = Programs.sealed(Programs.divided(2, 0, 1), Programs.divided(3, 0, 1),
@@ -242,6 +253,9 @@ public final class CompareTest {
         checks.due("14: needed on the one way", compared(fork(), 0, Programs.set(1, 5)), 1);
         checks.due("14: needed on the other way", compared(fork(), 0, Programs.set(2, 5)), 1);
         checks.due("14: needed on no way", compared(fork(), 0, Programs.set(3, 5)), 0);
+        BlockCode mixed = Programs.sealed(Programs.branch(0, 3), Programs.nothing(), Programs.go(4),
+                Programs.nothing(), Programs.end(4));
+        checks.due("14: a fork and then none", compared(mixed, 1, Programs.go(4)), 0);
         BlockCode next = Programs.sealed(Programs.branch(0, 1), Programs.end(0));
         checks.due("14: a fork to the next is none", compared(next, 0, Programs.branch(1, 1)), 0);
         BlockCode first = Programs.sealed(Programs.branch(0, 2), Programs.end(0), Programs.end(0));
@@ -305,6 +319,25 @@ public final class CompareTest {
         BlockCode loop = Programs.sealed(Programs.set(0, 1), Programs.go(0));
         checks.due("14: a last 9 that always goes back", compared(loop, 1, Programs.branch(0, 0)), 0);
         checks.due("15: but it cannot be committed", loop.commit(), false);
+    }
+
+    private static void compareFullBlocks() {
+        int[][] rows = new int[20][];
+        for (int i = 0; i < 19; i++) {
+            rows[i] = Programs.divided(i % 5, i % 5, (i + 1) % 5);
+        }
+        rows[19] = Programs.end(0);
+        BlockCode code = Programs.sealed(rows);
+        checks.due("14: a block of twenty", code.compare(), 0);
+        for (int i = 0; i < 19; i++) {
+            code.poke(i, 6, (i + 2) % 5, (i + 2) % 5, i % 5);
+        }
+        checks.due("14: a block of twenty with other symbols", code.compare(), 1);
+        for (int i = 0; i < 19; i++) {
+            code.poke(i, 1, 0, i, 0);
+        }
+        checks.due("14: a block of twenty without risks", code.compare(), 1);
+        checks.due("14: the source again", compared(code, 0, rows), 0);
     }
 
     private static void commitAsksForAComparison() {

@@ -16,6 +16,7 @@ public final class PassesTest {
         unneededOfEachOp();
         unneededLooksBehind();
         passesStartFromTheSource();
+        passesOfFullAndShorterPrograms();
         checks.end("PassesTest");
     }
 
@@ -149,6 +150,10 @@ public final class PassesTest {
         BlockCode folded = Programs.sealed(Programs.set(0, 2), Programs.set(1, 3), Programs.set(2, 5),
                 Programs.plus(3, 0, 1), Programs.end(8));
         checks.due("11: 2 plus 3 is not the value 5", folded.repeats(), 0);
+        BlockCode unfolded = Programs.sealed(Programs.set(0, 2), Programs.set(1, 3),
+                Programs.plus(3, 0, 1), Programs.plus(4, 0, 1), Programs.end(24));
+        checks.due("11: but it is a value", unfolded.repeats(), 1);
+        dueRow("11: but it is a value", unfolded, 3, Programs.copy(4, 3));
         BlockCode simple = Programs.sealed(Programs.set(0, 2), Programs.set(1, 2),
                 Programs.copy(2, 1), Programs.copy(2, 1), Programs.end(7));
         checks.due("11: 1 and 2 stay", simple.repeats(), 0);
@@ -206,5 +211,39 @@ public final class PassesTest {
         checks.due("10: constants", code.constants(), 1);
         dueRow("10: from the source again", code, 4, Programs.end(20));
         dueRow("10: from the source again", code, 1, Programs.plus(1, 2, 3));
+    }
+
+    private static void passesOfFullAndShorterPrograms() {
+        int[][] rows = new int[20][];
+        rows[0] = Programs.set(0, 1);
+        for (int i = 1; i < 19; i++) {
+            rows[i] = i % 2 == 1 ? Programs.copy(1, 0) : Programs.plus(2, 0, 3);
+        }
+        rows[19] = Programs.end(0);
+        BlockCode code = Programs.sealed(rows);
+        checks.due("10: twenty", code.constants(), 9);
+        checks.due("11: twenty", code.repeats(), 8);
+        checks.due("12: twenty", code.unneeded(), 18);
+        code.clear();
+        Programs.addAll(code, Programs.copy(1, 0), Programs.end(2));
+        checks.due("4: seal of a shorter one", code.seal(), 1);
+        checks.due("10: a shorter one", code.constants(), 0);
+        checks.due("11: a shorter one", code.repeats(), 0);
+        checks.due("12: a shorter one", code.unneeded(), 0);
+        checks.due("7: a shorter one", code.result(2, 0), -9);
+        code.clear();
+        Programs.addAll(code, Programs.nothing(), Programs.go(0));
+        code.seal();
+        checks.due("9: needs from before are forgotten", code.needed(0), 0);
+        checks.due("8: facts from before are forgotten", code.known(1, 0), 4294967296L);
+        checks.due("14: a shorter one", code.compare(), 0);
+        BlockCode many = new BlockCode();
+        for (int round = 0; round < 20; round++) {
+            Programs.addAll(many, Programs.set(0, round), Programs.plus(1, 0, 2), Programs.plus(3, 0, 2),
+                    Programs.times(4, 1, 1), Programs.minus(4, 4, 3), Programs.end(0));
+            many.seal();
+            checks.due("11: values from before are forgotten", many.repeats(), 1);
+            many.clear();
+        }
     }
 }

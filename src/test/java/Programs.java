@@ -1,5 +1,10 @@
+import java.util.Random;
+
 /** Makes objects for tests from instructions that are written as rows of op, d, a, b. */
 final class Programs {
+    /** Ints that are worth drawing: small ones, edges, and 65536, whose square wraps to 0. */
+    static final int[] INTS = {0, 0, 1, 1, -1, 2, 3, -7, 65536, Integer.MIN_VALUE, Integer.MAX_VALUE};
+
     private Programs() {
     }
 
@@ -67,5 +72,25 @@ final class Programs {
 
     static int[] end(int set) {
         return new int[] {10, 0, set, 0};
+    }
+
+    static int drawnInt(Random random) {
+        return INTS[random.nextInt(INTS.length)];
+    }
+
+    /** An instruction that has the form, over the first registers and instructions alone. */
+    static int[] drawn(Random random, int op, int registers, int length) {
+        int a = random.nextInt(registers);
+        int b = random.nextInt(registers);
+        if (op == 1) {
+            a = drawnInt(random);
+        } else if (op == 8) {
+            a = random.nextInt(length);
+        } else if (op == 9) {
+            b = random.nextInt(length);
+        } else if (op == 10) {
+            a = random.nextInt(32);
+        }
+        return new int[] {op, random.nextInt(registers), a, b};
     }
 }

@@ -70,6 +70,11 @@ public final class RunTest {
         checks.due("19: less", ops.told(3), 1);
         checks.due("19: not less", ops.told(4), 0);
         checks.due("20: steps", ops.steps(), 6);
+        BlockCode copied = Programs.sealed(Programs.copy(2, 1), Programs.end(6));
+        copied.input(0, 5);
+        copied.input(1, 6);
+        checks.due("17: run", copied.runSource(2), 0);
+        checks.due("19: a copy of register 1", copied.told(2), 6);
         BlockCode division = Programs.sealed(Programs.divided(2, 0, 1), Programs.end(4));
         division.input(0, MIN);
         division.input(1, -1);
@@ -94,6 +99,9 @@ public final class RunTest {
         code.input(1, 1);
         checks.due("17: not by 0", code.runSource(9), 0);
         checks.due("19: told", code.told(2), 7);
+        code.input(1, 0);
+        checks.due("17: by 0 again", code.runSource(9), 1);
+        checks.due("19: nothing is told any more", code.told(2), 0);
     }
 
     private static void runSourceStopsByFuel() {
