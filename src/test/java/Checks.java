@@ -7,17 +7,37 @@ final class Checks {
 
     private int made = 0;
     private int wrong = 0;
+    private String sentence = "";
+
+    /** The checks that follow test these words of the document. */
+    void sentence(String words) {
+        sentence = "[" + words + "] ";
+    }
 
     void due(String what, long got, long want) {
         made++;
         if (got != want) {
             wrong++;
-            System.out.println(what + " answered " + got + ", due is " + want);
+            System.out.println(sentence + what + " answered " + got + ", due is " + want);
         }
     }
 
     void due(String what, boolean got, boolean want) {
         due(what, got ? 1 : 0, want ? 1 : 0);
+    }
+
+    /** The row's op, d, a, b are what source answers of instruction i. */
+    void dueSource(String what, BlockCode code, int i, int... row) {
+        for (int field = 0; field < 4; field++) {
+            due(what + ": source(" + i + ", " + field + ")", code.source(i, field), row[field]);
+        }
+    }
+
+    /** The row's op, d, a, b are what result answers of instruction i. */
+    void dueResult(String what, BlockCode code, int i, int... row) {
+        for (int field = 0; field < 4; field++) {
+            due(what + ": result(" + i + ", " + field + ")", code.result(i, field), row[field]);
+        }
     }
 
     /** The call throws IllegalStateException and nothing else. */
@@ -33,7 +53,7 @@ final class Checks {
             got = "threw " + e.getClass().getName();
         }
         wrong++;
-        System.out.println(what + " " + got + ", due is IllegalStateException");
+        System.out.println(sentence + what + " " + got + ", due is IllegalStateException");
     }
 
     int wrong() {

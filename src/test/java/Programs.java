@@ -30,6 +30,16 @@ final class Programs {
         }
     }
 
+    /** As many rows as said: the first ones, then rows that do nothing, then the last one. */
+    static int[][] filled(int length, int[] last, int[]... first) {
+        int[][] rows = new int[length][];
+        for (int i = 0; i < length - 1; i++) {
+            rows[i] = i < first.length ? first[i] : nothing();
+        }
+        rows[length - 1] = last;
+        return rows;
+    }
+
     static int[] nothing() {
         return new int[] {0, 0, 0, 0};
     }
